@@ -815,7 +815,7 @@ public final class BeardHall {
         static final int MOST_BREADTH = 20;
 
         final int[] entries = new int[MOST_SEEN];
-        final boolean[] there = new boolean[MOST_SEEN];
+        final int[] there = new int[MOST_SEEN];
         int many;
 
         void take(Seen other) {
@@ -827,7 +827,7 @@ public final class BeardHall {
         void add(int entry, boolean isThere) {
             if (many < MOST_SEEN) {
                 entries[many] = entry;
-                there[many] = isThere;
+                there[many] = isThere ? 1 : 0;
                 many++;
             }
         }
@@ -858,7 +858,7 @@ public final class BeardHall {
         private boolean wouldBeSo(Hair hair, int eaten) {
             int left = hair.allThere() & ~eaten;
             for (int i = 0; i < many; i++) {
-                if (hasBit(left, entries[i]) != there[i]) {
+                if ((left >>> entries[i] & 1) != there[i]) {
                     return false;
                 }
             }

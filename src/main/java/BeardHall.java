@@ -15,6 +15,7 @@ public final class BeardHall {
     private static final int MOST_ACTS = 40;
     private static final int MOST_SEEN = 8;
     private static final int MOST_BREADTHS = 60;
+    private static final int ENDLESS = 0x7fffffff;
     private static final int MOST_YEARS_AT_ONCE = 30;
     private static final int LAST_YEAR = 999;
     private static final int MOST_ABOUT = 7;
@@ -706,7 +707,7 @@ public final class BeardHall {
         }
 
         int beyond(int monk, int breadth) {
-            return between(monk, breadth + 1, Integer.MAX_VALUE);
+            return between(monk, breadth + 1, ENDLESS);
         }
 
         int eatable(int monk, int from, int to) {

@@ -1629,22 +1629,14 @@ public final class BeardHall {
             int value = takeNumber(0, MOST_VALUE);
             if (fault == 0) {
                 int entry = hair.braidIn(monk, -ago, kind, about, value);
-                readDye(entry);
-                readKnot(entry);
-            }
-        }
-
-        private void readDye(int entry) {
-            if (token == WORD_DYED) {
-                advance();
-                roll.put(entry, DYE, takeNumber(0, 7));
-            }
-        }
-
-        private void readKnot(int entry) {
-            if (fault == 0 && token == WORD_KNOT) {
-                advance();
-                hair.tie(entry);
+                if (token == WORD_DYED) {
+                    advance();
+                    roll.put(entry, DYE, takeNumber(0, 7));
+                }
+                if (fault == 0 && token == WORD_KNOT) {
+                    advance();
+                    hair.tie(entry);
+                }
             }
         }
 

@@ -52,6 +52,7 @@ public final class AskingTest {
         hall.braid(1, 0, 1, 6);
         hall.braid(1, 0, 1, 7);
         KIT.same("a couple counts once", hall.rivals(), 2);
+        KIT.same("whoever is told first", KIT.hall("monk 1 9;monk 1 9;law 1 0 0 1;law 0 0 0 2;").rivals(), 1);
     }
 
     private static void owed() {

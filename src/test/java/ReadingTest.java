@@ -135,6 +135,7 @@ public final class ReadingTest {
         rule("about=5", 1, true);
         rule("old=4", 1, true);
         rule("grey=1", 1, true);
+        rule("grey+1=2", 1, true);
         rule("own=0", 1, true);
         rule("own=1", 0, true);
         rule("own", 1, false);
@@ -142,6 +143,7 @@ public final class ReadingTest {
         rule("age=70", 0, true);
         BeardHall hall = KIT.hall("grey 70;monk 69 9;monk 30 9;note 0 4 5 100;reads grey=1 and old=5 and age=31;");
         KIT.same("a year ahead", hall.may(1, 0), false);
+        KIT.same("grey is 0", KIT.hall("monk 59 9;note 0 0 0 0;reads grey=0 and 1+grey=1;").may(0, 0), true);
         hall.years(1);
         KIT.same("a year later", hall.may(1, 0), true);
         hall.die(0);

@@ -55,6 +55,11 @@ public final class SeenTest {
         hall.years(5);
         KIT.same("of the dead", hall.ate(0, 1), 3);
         KIT.same("nothing was eaten", hall.entry(0, 8), 1);
+        BeardHall far = KIT.hall("monk 1 30;note 0 19 0 0;note 0 20 0 0;");
+        far.see(0, true);
+        far.see(1, false);
+        KIT.same("20 but not 19", far.ate(0, 0), 1);
+        KIT.same("the first", far.ate(0, 1), 2020);
         KIT.noSuch("ate(0, 2)", () -> hall.ate(0, 2));
         KIT.noSuch("ate(0, -1)", () -> hall.ate(0, -1));
         KIT.noSuch("ate(2, 0)", () -> hall.ate(2, 0));

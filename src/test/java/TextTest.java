@@ -114,6 +114,8 @@ public final class TextTest {
         faultAt("monk 1 1;law 0 0 0 0 dyed ^8;", 2);
         faultAt("monk 1 1;law ^00000 0 0 0;", 2);
         faultAt("monk 1 1;monk 1 1;law 0 0 0 0;copy 0 1 ^61;", 2);
+        faultAt("monk 1 1;monk 1 1;law 0 0 0 0;copy 0 ^00001 0;", 2);
+        faultAt("monk 1 1;monk 1 1;law 0 0 0 0;copy ^00000 1 0;", 2);
         faultAt("knee ^0;", 2);
         faultAt("knee ^61;", 2);
         faultAt("grey ^0;", 2);
@@ -145,6 +147,9 @@ public final class TextTest {
         faultAt("monk 1 1;law 0 0 0 0 knot ^knot;", 1);
         faultAt("monk 1 1;law 0 0 0 0 dyed 1 ^dyed 1;", 1);
         faultAt("monk 1 1;monk 2 2;law 0 0 0 0;copy 0 1 0 ^knot;", 1);
+        faultAt("monk 1 1;monk 2 2;law 0 0 0 0;copy 0 ^;", 1);
+        faultAt("monk 1 1;monk 2 2;law 0 0 0 0;copy ^old 1 0;", 1);
+        faultAt("monk 1 1;monk 2 2;law 0 0 0 0;copy 0 ^own 0;", 1);
         faultAt("reads^;", 1);
         faultAt("reads 1 ^2;", 1);
         faultAt("reads 1 ^own;", 1);
@@ -201,6 +206,7 @@ public final class TextTest {
         faultAt("monk 1 1;law 0 0 0 0;copy ^1 0 0;", 3);
         faultAt("monk 1 1;law 0 0 0 0;copy 0 ^1 0;", 3);
         faultAt("reads ^foo;", 3);
+        faultAt("reads ^z;", 3);
         faultAt("reads ^or;", 3);
         faultAt("reads ^monk;", 3);
         faultAt("reads ^knot;", 3);

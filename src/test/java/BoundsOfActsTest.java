@@ -165,6 +165,17 @@ public final class BoundsOfActsTest {
         for (int what = 0; what < due.length; what++) {
             KIT.same("entry(1, " + what + ")", hall.entry(1, what), due[what]);
         }
+        BeardHall undone = KIT.hall("monk 1 9;monk 1 9;note 0 0 0 0 dyed 7 knot;");
+        undone.copy(0, 1);
+        undone.knot(1);
+        undone.comb(1);
+        undone.undo();
+        undone.undo();
+        undone.undo();
+        KIT.same("where a dyed one was UNDONE", undone.braid(1, 0, 0, 0), 1);
+        KIT.same("undyed", undone.entry(1, 5), 0);
+        KIT.same("not KNOTTED", undone.entry(1, 6), 0);
+        KIT.same("its RECORD", undone.entry(1, 7), 1);
         hall.years(5);
         KIT.same("THERE for 5 years", hall.entry(1, 8), 1);
         hall.years(1);

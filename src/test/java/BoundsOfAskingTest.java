@@ -90,6 +90,7 @@ public final class BoundsOfAskingTest {
         KIT.same("nobody", new BeardHall().rivals(), 0);
         KIT.same("one alone", KIT.hall("monk 1 9;law 0 1 0 1;law 0 1 0 2;").rivals(), 0);
         KIT.same("a couple", KIT.hall("monk 1 9;monk 1 9;law 0 1 0 1;law 1 1 0 2;").rivals(), 1);
+        KIT.same("the other way round", KIT.hall("monk 1 9;monk 1 9;law 1 1 0 1;law 0 1 0 2;").rivals(), 1);
         KIT.same("once", KIT.hall("monk 1 9;monk 1 9;law 0 1 0 1;law 1 1 0 2;law 0 2 3 1;law 1 2 3 9;").rivals(), 1);
         KIT.same("of another YEAR", KIT.hall("monk 1 9;monk 1 9;law 0 1 0 1;law 1 2 0 2;").rivals(), 0);
         KIT.same("ABOUT another", KIT.hall("monk 1 9;monk 1 9;law 0 1 0 1;law 1 1 1 2;").rivals(), 0);

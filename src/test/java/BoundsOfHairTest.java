@@ -445,6 +445,10 @@ public final class BoundsOfHairTest {
             BeardHall hall = KIT.hall("monk 1 9;note 0 0 " + number + " 0 dyed " + (7 - number) + ";reads about=" + number + " and dye=" + (7 - number) + ";");
             KIT.same("about and dye", hall.may(0, 0), true);
         }
+        BeardHall grey = KIT.hall("monk 59 9;monk 60 9;note 0 0 0 0;note 1 0 0 0;reads grey;");
+        readers("grey is 0, then 1", grey, 0, 0, 1, 1);
+        BeardHall own = KIT.hall("monk 1 9;monk 1 9;note 0 0 0 0;note 1 0 0 0;reads own;");
+        readers("own is 1, else 0", own, 1, 0, 0, 1);
         BeardHall undyed = KIT.hall("monk 1 9;note 0 0 7 0;reads dye=0;");
         KIT.same("undyed is 0", undyed.may(0, 0), true);
         BeardHall hall = KIT.hall("grey 40;monk 39 0;monk 97 9;note 0 0 0 0;copy 0 1 9;reads old*1000+grey*100+own*10=age+1070;");

@@ -213,6 +213,10 @@ public final class BoundsOfSeenTest {
         BeardHall chase = KIT.hall("monk 1 9;".repeat(4) + "law 0 1 0 10;copy 0 1 1;law 2 1 0 10;copy 2 3 1;debt 0 1 0 7;copy 4 2 1;debt 1 1 0 7;copy 6 3 1;");
         KIT.same("none rests", chase.game(0), 0);
         KIT.same("none rests", chase.game(1), -1);
+        BeardHall six = KIT.hall("monk 1 9;".repeat(6) + "law 0 1 0 9;copy 0 1 1;law 2 1 0 9;copy 2 3 1;law 4 1 0 9;copy 4 5 1;"
+            + "debt 0 1 0 9;copy 6 2 1;debt 1 1 0 9;copy 8 4 1;debt 3 1 0 9;copy 10 5 1;");
+        KIT.same("none of six rests", six.game(0), 0);
+        KIT.same("none of six rests", six.game(1), -1);
     }
 
     // 'two powers send each a barber to a MONK who is no plait: .. (one, if it is the same)'
@@ -541,10 +545,12 @@ public final class BoundsOfSeenTest {
             hall.years(0);
             hall.image();
         });
-        String[] names = {"years", "shave", "die", "braid", "copy", "knot", "comb", "moths", "undo", "see", "forget", "refused", "texts"};
+        String[] names = {"years", "shave", "die", "braid", "copy", "knot", "comb", "moths", "undo", "see", "forget", "refused", "texts", "seen otherwise",
+            "another seen"};
         Twins.Asked[] calls = {hall -> hall.years(9), hall -> hall.shave(0, 0), hall -> hall.die(0) ? 1 : 0, hall -> hall.braid(2, 0, 0, 0),
             hall -> hall.copy(0, 2), hall -> hall.knot(0) ? 1 : 0, hall -> hall.comb(0) ? 1 : 0, hall -> hall.moths(0, 0, 60), hall -> hall.undo(),
-            hall -> hall.see(1, false), hall -> hall.forget(), hall -> hall.years(0), hall -> TestKit.archive(hall, "x")};
+            hall -> hall.see(1, false), hall -> hall.forget(), hall -> hall.years(0), hall -> TestKit.archive(hall, "x"),
+            hall -> hall.forget() + hall.see(0, false), hall -> hall.forget() + hall.see(1, true)};
         for (int i = 0; i < calls.length; i++) {
             Twins.Asked call = calls[i];
             twins.harmless(names[i] + ", then restored", 1, hall -> {
@@ -614,8 +620,10 @@ public final class BoundsOfSeenTest {
             hall.undo();
         }
         hall.braid(0, 3, 7, 999);
-        hall.years(30);
         hall.knot(0);
+        for (int i = 0; i < 40; i++) {
+            hall.years(2);
+        }
         hall.restore();
         KIT.same("ACTS", hall.count(9), 40);
         int[] due = {1, 0, 0, 2, 3, 0, 0, 0, 1, 39};

@@ -67,8 +67,10 @@ public final class BoundsOfTextTest {
     // 'Nobody.'
     private static void nobody() {
         BeardHall hall = new BeardHall();
-        KIT.same("MONKS", hall.count(0), 0);
-        KIT.same("ENTRIES", hall.count(1), 0);
+        int[] due = {0, 0, 40, 60, 3, 0, 0, 0, 0, 0, 0, 0, 0, 0, 0};
+        for (int what = 0; what < due.length; what++) {
+            KIT.same("count(" + what + ")", hall.count(what), due[what]);
+        }
         KIT.noSuch("no MONK", () -> hall.monk(0, 0));
         KIT.noSuch("no ENTRY", () -> hall.entry(0, 0));
         KIT.same("no place of a FAULT", hall.fault(), -1);
@@ -215,6 +217,14 @@ public final class BoundsOfTextTest {
         KIT.same("the image is gone", hall.restore(), false);
         KIT.same("a braid", hall.braid(0, 3, 0, 0), 0);
         KIT.same("the rule is gone", hall.may(0, 0), true);
+        TestKit.archive(hall, "monk 1 9;monk 1 9;law 0 0 0 0 dyed 7 knot;law 0 10 0 0 dyed 7;copy 0 1 0;");
+        TestKit.archive(hall, "monk 1 9;monk 1 9;note 0 0 0 0;note 1 0 0 0;note 1 0 0 0;");
+        for (int entry = 0; entry < 3; entry++) {
+            KIT.same("the DYE is gone", hall.entry(entry, 5), 0);
+            KIT.same("the KNOT is gone", hall.entry(entry, 6), 0);
+            KIT.same("it is THERE", hall.entry(entry, 8), 1);
+            KIT.same("its RECORD is itself", hall.entry(entry, 7), entry);
+        }
         KIT.same("he lives", hall.die(0), true);
     }
 
@@ -410,6 +420,29 @@ public final class BoundsOfTextTest {
         fault(text.toString(), 1, 699);
         text.setCharAt(699, ' ');
         fault(text.toString(), 1, 700);
+        lastToken("mon", 1, 697);
+        lastToken("m", 1, 699);
+        lastToken("k", 1, 699);
+        lastToken("monk", 1, 700);
+        lastToken("monk 1", 1, 700);
+        lastToken("monk 1 1", 1, 700);
+        lastToken("monk 1 1;", 0, -1);
+        lastToken("monk 12345", 2, 695);
+        lastToken("grey 0", 2, 699);
+        lastToken("grey 9;", 0, -1);
+        lastToken("law 0", 3, 699);
+        lastToken("reads ag", 3, 698);
+        lastToken("reads age", 1, 700);
+        lastToken("reads not", 1, 700);
+        lastToken("reads 1 o", 1, 699);
+        lastToken("reads 1;", 0, -1);
+        lastToken("reads (", 1, 700);
+        lastToken("", 0, -1);
+    }
+
+    /** A text of 700 bytes, blanks and then this. */
+    private static void lastToken(String end, int due, int place) {
+        fault(" ".repeat(700 - end.length()) + end, due, place);
     }
 
     // 'TOKENS: words (a .. z, the longest row), NUMBERS (1 to 4 digits), signs'
@@ -654,6 +687,14 @@ public final class BoundsOfTextTest {
             faultAt(word + " 1;^" + word + " 0;", 5);
         }
         faultAt("reads 1;monk 1 1;law 0 0 0 0;^reads foo;", 5);
+        for (String word : new String[] {"knee", "grey", "daily", "reads"}) {
+            for (String other : new String[] {"knee", "grey", "daily", "reads"}) {
+                if (!word.equals(other)) {
+                    faultAt(word + " 1;" + other + " 1;^" + word + " 1;", 5);
+                    faultAt(word + " 1;" + other + " 1;^" + other + " 1;", 5);
+                }
+            }
+        }
         fine("knee 1;grey 1;daily 1;reads 1;");
         fine("reads 1;daily 1;grey 1;knee 1;monk 1 1;");
         for (String word : MONKS) {

@@ -22,6 +22,11 @@ public final class FuzzTest {
         BeardHall hall = new BeardHall();
         int faults = 0;
         for (int i = 0; i < 20000; i++) {
+            if (i % 10 == 0) {
+                // nothing is promised of an object after its 512th call
+                hall = new BeardHall();
+                faults = 0;
+            }
             StringBuilder text = new StringBuilder(random.nextBoolean() ? "monk 1 9;clerk 1 5;law 0 1 1 1;" : "");
             int tokens = random.nextInt(30);
             for (int t = 0; t < tokens; t++) {

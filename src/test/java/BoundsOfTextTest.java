@@ -677,6 +677,11 @@ public final class BoundsOfTextTest {
         faultAt(two + "copy 0 1 0;copy 2 2 0;copy 3 ^0 61;", 4);
         faultAt(two + "copy 0 ^0", 4);
         faultAt(two + "copy 0 ^0 x", 4);
+        // hair holds what is THERE: what was GONE from the beginning it doesn't
+        fine("monk 1 9;monk 1 2;law 0 0 0 0;copy 0 1 3;copy 0 1 2;");
+        faultAt("monk 1 9;monk 1 2;law 0 0 0 0;copy 0 1 2;copy 0 ^1 2;", 4);
+        fine("monk 1 2;law 0 3 0 0;copy 0 0 0;");
+        faultAt("monk 1 2;law 0 2 0 0;copy 0 ^0 0;", 4);
     }
 
     // FAULT 5: 'a second 'knee', 'grey', 'daily', 'reads''; FAULT 6: 'a 'knee' behind a MONK (ahead of 5)'

@@ -2,7 +2,7 @@ import java.util.ArrayList;
 import java.util.List;
 import java.util.Random;
 
-/** Runs of drawn calls, each answer against PlainHall's; UNDONE is there a copy from ahead of the ACT. */
+/** Runs of drawn calls, texts among them, each answer against PlainHall's; UNDONE is there a copy from ahead of the ACT. */
 public final class ModelTest {
     private static final TestKit KIT = new TestKit("ModelTest");
     private static final int RUNS = 400;
@@ -56,6 +56,9 @@ public final class ModelTest {
     private void begin() {
         StringBuilder text = new StringBuilder();
         plain = new PlainHall();
+        acts.clear();
+        seen.clear();
+        imagePlain = null;
         if (upTo(1) == 0) {
             plain.knee = 1 + upTo(59);
             text.append("knee ").append(plain.knee).append(';');
@@ -123,7 +126,23 @@ public final class ModelTest {
         return -1;
     }
 
+    /** Another ARCHIVE in the midst of a run, or a text with a FAULT at its end, behind which all stays. */
+    private void texts() {
+        if (upTo(1) == 0) {
+            begin();
+            return;
+        }
+        String good = "knee 3;grey 2;daily 1;bald 1 1;plait 9 9;law 0 0 0 7 knot;copy 0 1 2;reads 0;";
+        same("a FAULT", TestKit.archive(hall, good + "knee 4;"), 6);
+        same("its place", hall.fault(), good.length());
+        status[0]++;
+    }
+
     private void act() {
+        if (upTo(39) == 0) {
+            texts();
+            return;
+        }
         int kind = upTo(12);
         if (kind == 0) {
             years();
